@@ -7,6 +7,7 @@ public final class Derivationdesk {
     private static final int MOST_RELATIONS = 8;
     private static final int MOST_PARTS = 4;
     private static final int MOST_RULES = 12;
+    private static final int ALL_RULES = (1 << MOST_RULES) - 1;
     private static final int SIDES_OF_BOTH = 3;
     private static final int WISHED_ROWS = 2;
     private static final int KEPT_TIMES = 30;
@@ -417,7 +418,7 @@ public final class Derivationdesk {
             return "";
         }
         int goal = (relation * CONSTANTS + first) * CONSTANTS + inner(second);
-        int found = book.canReach(relation, wished) ? wishedRows(wished, goal) : NONE;
+        int found = book.isReaching(relation, wished) ? wishedRows(wished, goal, book.rulesFor(relation)) : NONE;
         if (found == NONE) {
             return "none";
         }
@@ -437,10 +438,17 @@ public final class Derivationdesk {
         if (size < 1 || size > 3) {
             throw new IllegalArgumentException("a size is 1 to 3");
         }
+        int rules = book.rulesFor(relation);
+        if (book.isOfBoth(rules)) {
+            return NONE;
+        }
         int most = book.placesOf(given) == 1 ? size : size * size;
+        if (!book.isReaching(relation, given)) {
+            most = 0;
+        }
         for (int many = 0; many <= most; many++) {
             for (int set = 0; set < 1 << most; set++) {
-                if (Integer.bitCount(set) == many && isTellingApart(given, relation, size, set)) {
+                if (Integer.bitCount(set) == many && isTellingApart(given, relation, size, set, rules)) {
                     return set;
                 }
             }
@@ -456,7 +464,7 @@ public final class Derivationdesk {
         } else {
             trialFacts.drop(relation, first, inner(second));
         }
-        maker.make(trial, trialFacts, 0, 1, NONE, null);
+        maker.make(trial, trialFacts, 0, 1, ALL_RULES, null);
         return trial.all - answer.all;
     }
 
@@ -624,8 +632,8 @@ public final class Derivationdesk {
     }
 
     private void goOn() {
-        maker.make(answer, facts, 0, 1, NONE, null);
-        maker.make(otherAnswer, facts, 1, 1, NONE, null);
+        maker.make(answer, facts, 0, 1, ALL_RULES, null);
+        maker.make(otherAnswer, facts, 1, 1, ALL_RULES, null);
         grounds.isReady = false;
         time++;
         history.keep(time, answer);
@@ -657,7 +665,7 @@ public final class Derivationdesk {
     }
 
     private int workOf(int way, int what) {
-        maker.make(trial, facts, 0, way, NONE, null);
+        maker.make(trial, facts, 0, way, ALL_RULES, null);
         return what == 0 ? maker.rounds : maker.firings;
     }
 
@@ -684,13 +692,13 @@ public final class Derivationdesk {
     }
 
     /** The fewest rows with which the goal is there, as a set of cells; NONE, if 2 are not enough. */
-    private int wishedRows(int wished, int goal) {
+    private int wishedRows(int wished, int goal, int rules) {
         int free = freeCells(wished);
         for (int many = 1; many <= WISHED_ROWS; many++) {
             for (int low = 0; low < CELLS; low++) {
                 for (int high = many == 1 ? low : low + 1; high < (many == 1 ? low + 1 : CELLS); high++) {
                     int set = 1 << low | 1 << high;
-                    if ((set & free) == set && isReached(wished, set, goal)) {
+                    if ((set & free) == set && isReached(wished, set, goal, rules)) {
                         return set;
                     }
                 }
@@ -704,18 +712,18 @@ public final class Derivationdesk {
         return every & ~facts.cellsOf(relation);
     }
 
-    private boolean isReached(int wished, int set, int goal) {
+    private boolean isReached(int wished, int set, int goal, int rules) {
         trialFacts.copy(facts);
         for (int cell = 0; cell < CELLS; cell++) {
             if ((set >> cell & 1) != 0) {
                 trialFacts.put(wished, cell / CONSTANTS, cell % CONSTANTS);
             }
         }
-        maker.make(trial, trialFacts, 0, 1, NONE, null);
+        maker.make(trial, trialFacts, 0, 1, rules, null);
         return trial.has(goal / CELLS, goal % CELLS / CONSTANTS, goal % CONSTANTS);
     }
 
-    private boolean isTellingApart(int given, int relation, int size, int set) {
+    private boolean isTellingApart(int given, int relation, int size, int set, int rules) {
         boolean isSingle = book.placesOf(given) == 1;
         trialFacts.clear();
         for (int k = 0; k < CELLS; k++) {
@@ -723,8 +731,8 @@ public final class Derivationdesk {
                 trialFacts.put(given, isSingle ? k : k / size, isSingle ? 0 : k % size);
             }
         }
-        maker.make(trial, trialFacts, 0, 1, NONE, null);
-        maker.make(otherTrial, trialFacts, 1, 1, NONE, null);
+        maker.make(trial, trialFacts, 0, 1, rules, null);
+        maker.make(otherTrial, trialFacts, 1, 1, rules, null);
         return !trial.isSameOf(relation, otherTrial);
     }
 
@@ -734,9 +742,9 @@ public final class Derivationdesk {
     }
 
     private boolean isRemade() {
-        maker.make(trial, facts, 0, 0, NONE, null);
+        maker.make(trial, facts, 0, 0, ALL_RULES, null);
         boolean isSame = trial.isSame(answer);
-        maker.make(trial, facts, 0, 1, NONE, null);
+        maker.make(trial, facts, 0, 1, ALL_RULES, null);
         int fired = maker.firings;
         int all = 0;
         for (int rule = 0; rule < book.laid; rule++) {
@@ -752,7 +760,7 @@ public final class Derivationdesk {
         for (int relation = 0; relation < book.relations; relation++) {
             asker.gather(relation, NONE, NONE);
             asker.gatherFitting();
-            maker.make(trial, facts, 0, 1, NONE, asker.fitting);
+            maker.make(trial, facts, 0, 1, ALL_RULES, asker.fitting);
             isFound &= trial.isSameOf(relation, answer);
         }
         return isFound;
@@ -762,7 +770,7 @@ public final class Derivationdesk {
         boolean isSame = true;
         for (int rule = 0; rule < book.laid; rule++) {
             if (book.ruleAt(rule).isOf(0) && frost.isNeedless(rule)) {
-                maker.make(trial, facts, 0, 1, rule, null);
+                maker.make(trial, facts, 0, 1, ALL_RULES & ~(1 << rule), null);
                 isSame &= trial.isSame(answer);
             }
         }
@@ -829,11 +837,11 @@ public final class Derivationdesk {
         }
 
         void clear() {
-            for (int i = 0; i < MOST_RELATIONS * width; i++) {
-                seconds[i] = 0;
-                firsts[i] = 0;
-            }
-            for (int relation = 0; relation < MOST_RELATIONS; relation++) {
+            for (int relation = 0; all > 0 && relation < MOST_RELATIONS; relation++) {
+                for (int value = 0; many[relation] > 0 && value < width; value++) {
+                    seconds[relation * width + value] = 0;
+                    firsts[relation * width + value] = 0;
+                }
                 many[relation] = 0;
             }
             all = 0;
@@ -882,7 +890,8 @@ public final class Derivationdesk {
         int doubled(int relation) {
             int found = 0;
             for (int value = 0; value < width; value++) {
-                found |= has(relation, value, value) ? 1 << value : 0;
+                int i = relation * width + value;
+                found |= i >= 0 && i < seconds.length ? seconds[i] & 1 << value : 0;
             }
             return found;
         }
@@ -891,7 +900,8 @@ public final class Derivationdesk {
         int starts(int relation) {
             int found = 0;
             for (int value = 0; value < width; value++) {
-                found |= following(relation, value) != 0 ? 1 << value : 0;
+                int i = relation * width + value;
+                found |= i >= 0 && i < seconds.length && seconds[i] != 0 ? 1 << value : 0;
             }
             return found;
         }
@@ -967,6 +977,7 @@ public final class Derivationdesk {
         final int[] x = new int[MOST_PARTS];
         final int[] y = new int[MOST_PARTS];
         final boolean[] isNot = new boolean[MOST_PARTS];
+        final int[] partVariables = new int[MOST_PARTS];
         int sideSet;
         int groupKind = NONE;
         int of;
@@ -1020,6 +1031,7 @@ public final class Derivationdesk {
                 this.x[p] = x;
                 this.y[p] = y;
                 this.isNot[p] = isNot;
+                partVariables[p] = variableOf(x) | variableOf(y);
             }
         }
 
@@ -1064,7 +1076,7 @@ public final class Derivationdesk {
         }
 
         int variablesAt(int p) {
-            return variableOf(xAt(p)) | variableOf(yAt(p));
+            return p >= 0 && p < MOST_PARTS ? partVariables[p] : 0;
         }
 
         /** Whether a with part looks at a relation that has rows here. */
@@ -1193,17 +1205,40 @@ public final class Derivationdesk {
         }
 
         /** Whether rows of one relation can depend on those of another one. */
-        boolean canReach(int from, int to) {
-            int reached = 1 << from;
+        boolean isReaching(int from, int to) {
+            return (reachedFrom(from) >> to & 1) != 0;
+        }
+
+        /** The rules, of any sides, on which the rows of a relation can depend. */
+        int rulesFor(int relation) {
+            int reached = reachedFrom(relation);
+            int set = 0;
+            for (int i = 0; i < laid; i++) {
+                set |= (reached >> ruleAt(i).head & 1) << i;
+            }
+            return set;
+        }
+
+        /** Whether all rules of the set count for both sides. */
+        boolean isOfBoth(int set) {
+            boolean isOfBoth = true;
+            for (int i = 0; i < laid; i++) {
+                isOfBoth &= (set >> i & 1) == 0 || ruleAt(i).sideSet == SIDES_OF_BOTH;
+            }
+            return isOfBoth;
+        }
+
+        /** The relations on which the rows of a relation can depend, with itself. */
+        int reachedFrom(int relation) {
+            int reached = 1 << relation;
             for (int pass = 0; pass < MOST_RELATIONS; pass++) {
                 for (int i = 0; i < laid; i++) {
-                    Rule rule = ruleAt(i);
-                    if ((reached >> rule.head & 1) != 0) {
-                        reached |= read(rule);
+                    if ((reached >> ruleAt(i).head & 1) != 0) {
+                        reached |= read(ruleAt(i));
                     }
                 }
             }
-            return (reached >> to & 1) != 0;
+            return reached;
         }
 
         int read(Rule rule) {
@@ -1221,6 +1256,7 @@ public final class Derivationdesk {
         final int[] order = new int[MOST_PARTS];
         final int[] list = new int[VARIABLES];
         final int[] left = new int[VARIABLES];
+        final int[] due = new int[VARIABLES];
         final int width;
         Rule rule;
         Rows rows;
@@ -1300,6 +1336,24 @@ public final class Derivationdesk {
             }
             isBefore = true;
             isOver = !isSoFar();
+            dueParts();
+        }
+
+        /** A part is looked at as soon as the last of its variables has a value. */
+        void dueParts() {
+            for (int at = opened - 1; at >= 0; at--) {
+                due[at] = 0;
+            }
+            for (int i = 0; i < considered; i++) {
+                int p = partAt(i);
+                int variables = rule.variablesAt(p);
+                for (int at = opened - 1; at >= 0; at--) {
+                    if ((variables >> list[at] & 1) != 0) {
+                        due[at] |= 1 << p;
+                        break;
+                    }
+                }
+            }
         }
 
         /** Whether all considered parts are so that have no open variable. */
@@ -1330,7 +1384,7 @@ public final class Derivationdesk {
                     return isOnce;
                 }
                 at = 0;
-                left[0] = choices(list[0]);
+                left[0] = choices(0);
             }
             for (int step = 0; step < MOST_STEPS && !isOver && at >= 0 && at < VARIABLES; step++) {
                 int v = list[at];
@@ -1349,7 +1403,7 @@ public final class Derivationdesk {
                     }
                     at++;
                     if (at < VARIABLES) {
-                        left[at] = choices(list[at]);
+                        left[at] = choices(at);
                     }
                 }
             }
@@ -1357,21 +1411,21 @@ public final class Derivationdesk {
             return false;
         }
 
-        /** The values of a variable with which all considered parts are so that have no other unknown one. */
-        int choices(int v) {
+        /** The values of an open variable with which all parts are so that are due with it. */
+        int choices(int at) {
             if (rule.isGroup()) {
                 return rows.starts(rule.of);
             }
             int found = (1 << width) - 1;
-            for (int i = 0; i < considered; i++) {
-                int p = partAt(i);
-                int x = rule.xAt(p);
-                int y = rule.yAt(p);
-                int known = x != v ? valueAt(x) : y != v ? valueAt(y) : 0;
-                if ((x == v || y == v) && known != NONE) {
-                    int relation = rule.relationAt(p);
-                    int so = x != v ? rows.following(relation, known)
-                        : y != v ? rows.leading(relation, known) : rows.doubled(relation);
+            if (at < 0 || at >= VARIABLES) {
+                return found;
+            }
+            for (int p = 0; due[at] >> p != 0 && p < MOST_PARTS; p++) {
+                if ((due[at] >> p & 1) != 0) {
+                    int x = rule.xAt(p);
+                    int y = rule.yAt(p);
+                    int so = x != list[at] ? rows.following(rule.relationAt(p), valueAt(x))
+                        : y != list[at] ? rows.leading(rule.relationAt(p), valueAt(y)) : rows.doubled(rule.relationAt(p));
                     found &= rule.isNotAt(p) ? ~so : so;
                 }
             }
@@ -1532,8 +1586,8 @@ public final class Derivationdesk {
             this.walk = walk;
         }
 
-        /** Way 0 is over and over, 1 only what is new; a rule may be left out, rows may be the only ones allowed. */
-        void make(Rows into, Rows facts, int side, int way, int skipped, Rows allowed) {
+        /** Way 0 is over and over, 1 only what is new; by a set of rules, and rows may be the only ones allowed. */
+        void make(Rows into, Rows facts, int side, int way, int rules, Rows allowed) {
             rounds = 0;
             firings = 0;
             into.copy(facts);
@@ -1541,13 +1595,13 @@ public final class Derivationdesk {
                 into.keepOnly(allowed);
             }
             for (int layer = 0; layer < MOST_RELATIONS; layer++) {
-                boolean isGrowing = hasRules(layer, side);
+                boolean isGrowing = hasRules(layer, side, rules);
                 for (int round = 0; isGrowing && round < MOST_ROUNDS; round++) {
                     boolean isNewOnly = way == 1 && round > 0;
                     made.clear();
                     for (int i = 0; i < book.laid; i++) {
                         Rule rule = book.ruleAt(i);
-                        if (i != skipped && rule.isOf(side) && book.layerOf(rule.head) == layer
+                        if ((rules >> i & 1) != 0 && rule.isOf(side) && book.layerOf(rule.head) == layer
                                 && (!isNewOnly || rule.reads(fresh))) {
                             fire(rule, into, isNewOnly, allowed);
                         }
@@ -1558,12 +1612,14 @@ public final class Derivationdesk {
             }
         }
 
-        boolean hasRules(int layer, int side) {
-            boolean isAny = false;
+        boolean hasRules(int layer, int side, int rules) {
             for (int i = 0; i < book.laid; i++) {
-                isAny |= book.ruleAt(i).isOf(side) && book.layerOf(book.ruleAt(i).head) == layer;
+                Rule rule = book.ruleAt(i);
+                if ((rules >> i & 1) != 0 && rule.isOf(side) && book.layerOf(rule.head) == layer) {
+                    return true;
+                }
             }
-            return isAny;
+            return false;
         }
 
         void fire(Rule rule, Rows rows, boolean isNewOnly, Rows allowed) {
@@ -1829,10 +1885,6 @@ public final class Derivationdesk {
             this.answer = answer;
         }
 
-        static int patternOf(int relation, int first, int second) {
-            return (relation * CHOICES + first + 1) * CHOICES + second + 1;
-        }
-
         void gather(int relation, int first, int second) {
             for (int pattern = 0; pattern < PATTERNS; pattern++) {
                 isAsked[pattern] = false;
@@ -1841,13 +1893,16 @@ public final class Derivationdesk {
             ask(relation, first, second);
             for (int i = 0; i < asked && i < PATTERNS; i++) {
                 for (int r = 0; r < book.laid; r++) {
-                    follow(book.ruleAt(r), queue[i]);
+                    Rule rule = book.ruleAt(r);
+                    if (rule.isOf(0) && rule.head == queue[i] / CHOICES / CHOICES) {
+                        follow(rule, queue[i] / CHOICES % CHOICES - 1, queue[i] % CHOICES - 1);
+                    }
                 }
             }
         }
 
         void ask(int relation, int first, int second) {
-            int pattern = patternOf(relation, first, second);
+            int pattern = (relation * CHOICES + first + 1) * CHOICES + second + 1;
             if (pattern >= 0 && pattern < PATTERNS && asked < PATTERNS && !isAsked[pattern]) {
                 isAsked[pattern] = true;
                 queue[asked] = pattern;
@@ -1856,11 +1911,9 @@ public final class Derivationdesk {
         }
 
         /** Asks what a rule needs that makes rows of the pattern. */
-        void follow(Rule rule, int pattern) {
-            int first = pattern / CHOICES % CHOICES - 1;
+        void follow(Rule rule, int first, int second) {
             walk.aim(rule, answer);
-            if (!rule.isOf(0) || rule.head != pattern / CHOICES / CHOICES
-                    || !walk.fix(first, pattern % CHOICES - 1)) {
+            if (!walk.fix(first, second)) {
                 return;
             }
             if (rule.isGroup()) {
@@ -1880,21 +1933,15 @@ public final class Derivationdesk {
         /** All rows that fit one or more of what is asked, whether they are there or not. */
         void gatherFitting() {
             fitting.clear();
-            for (int relation = 0; relation < book.relations; relation++) {
+            for (int i = 0; i < asked && i < PATTERNS; i++) {
+                int first = queue[i] / CHOICES % CHOICES - 1;
+                int second = queue[i] % CHOICES - 1;
                 for (int cell = 0; cell < CELLS; cell++) {
-                    int first = cell / CONSTANTS;
-                    int second = cell % CONSTANTS;
-                    if (isAskedFor(relation, first, second) || isAskedFor(relation, first, NONE)
-                            || isAskedFor(relation, NONE, second) || isAskedFor(relation, NONE, NONE)) {
-                        fitting.put(relation, first, second);
+                    if ((first == NONE || first == cell / CONSTANTS) && (second == NONE || second == cell % CONSTANTS)) {
+                        fitting.put(queue[i] / CHOICES / CHOICES, cell / CONSTANTS, cell % CONSTANTS);
                     }
                 }
             }
-        }
-
-        boolean isAskedFor(int relation, int first, int second) {
-            int pattern = patternOf(relation, first, second);
-            return pattern >= 0 && pattern < PATTERNS && isAsked[pattern];
         }
 
         int fittingAnswers() {
