@@ -197,7 +197,7 @@ public final class OracleTest {
             case 25: both(desk, model, told, "since", r, a, b); break;
             default:
                 if (dice.oneOf(4)) both(desk, model, told, "wish", relation(dice, model), r, constant(dice, domain), second(dice, model, r, domain));
-                else if (dice.oneOf(3)) both(desk, model, told, "differ", relation(dice, model), r, dice.oneOf(10) ? dice.below(6) - 1 : 1 + dice.below(2));
+                else if (dice.oneOf(3)) both(desk, model, told, "differ", relation(dice, model), r, dice.oneOf(10) ? dice.below(6) - 1 : dice.oneOf(8) ? 3 : 1 + dice.below(2));
                 else both(desk, model, told, "isSound");
                 break;
         }
