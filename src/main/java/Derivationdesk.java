@@ -1328,7 +1328,7 @@ public final class Derivationdesk {
             for (int v = 0; v < VARIABLES; v++) {
                 if ((fixed >> v & 1) == 0) {
                     value[v] = NONE;
-                    if ((variables >> v & 1) != 0) {
+                    if ((variables >> v & 1) != 0 && opened < VARIABLES) {
                         list[opened] = v;
                         opened++;
                     }
@@ -1341,17 +1341,19 @@ public final class Derivationdesk {
 
         /** A part is looked at as soon as the last of its variables has a value. */
         void dueParts() {
-            for (int at = opened - 1; at >= 0; at--) {
+            for (int at = 0; at < VARIABLES; at++) {
                 due[at] = 0;
             }
             for (int i = 0; i < considered; i++) {
                 int p = partAt(i);
-                int variables = rule.variablesAt(p);
-                for (int at = opened - 1; at >= 0; at--) {
-                    if ((variables >> list[at] & 1) != 0) {
-                        due[at] |= 1 << p;
-                        break;
+                int last = NONE;
+                for (int at = 0; at < opened && at < VARIABLES; at++) {
+                    if ((rule.variablesAt(p) >> list[at] & 1) != 0) {
+                        last = at;
                     }
+                }
+                if (last >= 0) {
+                    due[last] |= 1 << p;
                 }
             }
         }

@@ -203,6 +203,22 @@ public final class OracleTest {
         }
     }
 
+    /** Any call with any arguments. */
+    private static void wild(Derivationdesk desk, Model model, Dice dice, List<String> told) {
+        List<String> names = new ArrayList<>(DESK.keySet());
+        String name = names.get(dice.below(names.size()));
+        Class<?>[] types = DESK.get(name).getParameterTypes();
+        Object[] arguments = new Object[types.length];
+        int[] odd = {Integer.MIN_VALUE, Integer.MIN_VALUE + 1, -3, -2, 15, 30, 64, Integer.MAX_VALUE - 1, Integer.MAX_VALUE};
+        for (int i = 0; i < types.length; i++) {
+            if (types[i] == boolean.class) arguments[i] = dice.oneOf(2);
+            else arguments[i] = dice.oneOf(4) ? odd[dice.below(odd.length)] : dice.below(7) - 1;
+        }
+        if (name.equals("relation") && model.places.size() > 5 || name.equals("wish") && !dice.oneOf(6)) return;
+        if (name.equals("differ") && (int) arguments[2] == 3 && !dice.oneOf(6)) return;
+        both(desk, model, told, name, arguments);
+    }
+
     private static void run(long start) {
         Dice dice = new Dice(start);
         Derivationdesk desk = new Derivationdesk();
@@ -212,7 +228,8 @@ public final class OracleTest {
         int relations = 2 + dice.below(5);
         for (int i = 0; i < relations; i++) both(desk, model, told, "relation", dice.oneOf(4) ? 1 : 2);
         while (told.size() < CALLS && wrong == 0) {
-            if (dice.oneOf(3)) change(desk, model, dice, told, domain);
+            if (dice.oneOf(8)) wild(desk, model, dice, told);
+            else if (dice.oneOf(3)) change(desk, model, dice, told, domain);
             else look(desk, model, dice, told, domain);
             if (dice.oneOf(12)) both(desk, model, told, "digest");
         }
