@@ -45,21 +45,26 @@ public final class Derivationdesk {
     private int refused;
 
     public Derivationdesk() {
-        book = new Book();
-        facts = new Rows(CONSTANTS);
-        answer = new Rows(CONSTANTS);
+        // The parts are tied together before the desk has them, so that nothing of it is handed out half made.
+        Book pages = new Book();
+        Rows told = new Rows(CONSTANTS);
+        Rows kept = new Rows(CONSTANTS);
+        Walk shared = new Walk(CONSTANTS, pages.blank, kept);
+        book = pages;
+        facts = told;
+        answer = kept;
+        walk = shared;
         otherAnswer = new Rows(CONSTANTS);
         before = new Rows(CONSTANTS);
         trialFacts = new Rows(CONSTANTS);
         trial = new Rows(CONSTANTS);
         otherTrial = new Rows(CONSTANTS);
-        walk = new Walk(CONSTANTS, book.blank, answer);
-        maker = new Maker(book, walk);
-        grounds = new Grounds(book, walk, facts, answer);
-        asker = new Asker(book, walk, answer);
-        frost = new Frost(book);
+        maker = new Maker(pages, shared);
+        grounds = new Grounds(pages, shared, told, kept);
+        asker = new Asker(pages, shared, kept);
+        frost = new Frost(pages, new Rows(FROZEN_VALUES));
         history = new History();
-        scribe = new Scribe(book);
+        scribe = new Scribe(pages);
     }
 
     public int relation(int places) throws IllegalArgumentException, IllegalStateException {
@@ -1959,12 +1964,13 @@ public final class Derivationdesk {
     private static final class Frost {
         final Book book;
         final Walk walk;
-        final Rows rows = new Rows(FROZEN_VALUES);
+        final Rows rows;
         final Rows made = new Rows(FROZEN_VALUES);
         final Rows fresh = new Rows(FROZEN_VALUES);
 
-        Frost(Book book) {
+        Frost(Book book, Rows rows) {
             this.book = book;
+            this.rows = rows;
             walk = new Walk(FROZEN_VALUES, book.blank, rows);
         }
 
