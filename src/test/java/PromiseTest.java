@@ -464,6 +464,15 @@ public final class PromiseTest {
         due("left", d.scrap(0), 0);
         due("rows", d.rows(1, 0), "");
         thrown(d, INDEX, "none is left", () -> d.scrap(0));
+        Derivationdesk f = desk(3);
+        f.closure(1, 0);
+        fillRules(f);
+        due("of 12", f.scrap(0), 11);
+        due("those after it move up", f.rule(0), "1(v0,v2):-1(v0,v1),0(v1,v2)/3");
+        due("the last one", f.rule(10), "2(v0,v1):-0(v0,v1)/3");
+        f.group(2, 0, 1, 1);
+        due("the last of 12", f.scrap(11), 11);
+        due("the last one", f.rule(10), "2(v0,v1):-0(v0,v1)/3");
         Derivationdesk e = desk(2);
         e.group(1, 0, 0, 3);
         due("LAYERS", e.count(4), 2);
@@ -926,7 +935,10 @@ public final class PromiseTest {
         d.tell(0, 2, 2);
         due("one of one place", d.wish(3, 2, 4, 2), "3(4)");
         due("not reached", d.wish(2, 3, 0, -1), "none");
-        due("the row itself", d.wish(3, 3, 0, -1), "3(0)");
+        for (int a = 0; a < 5; a++) due("the row itself", d.wish(3, 3, a, -1), a == 3 ? "" : "3(" + a + ")");
+        for (int cell = 0; cell < 25; cell++) {
+            due("the row itself", d.wish(2, 2, cell / 5, cell % 5), d.holds(2, cell / 5, cell % 5) ? "" : "2(" + cell / 5 + "," + cell % 5 + ")");
+        }
         lay(d, 1, 3, 0, -1, w(0, 0, 1), w(0, 1, 0), w(0, 1, 1));
         due("one row for three parts", d.wish(0, 3, 1, -1), "0(1,1)");
         wrongRow(d, 0, 3, (r, a, b) -> d.wish(0, r, a, b));
