@@ -1,58 +1,8 @@
 /** Each promise of the document with ordinary inputs, its edges and wrong inputs; the answers are found by hand. */
-public final class PromiseTest {
-    private static int wrong = 0;
-    private static int checks = 0;
-    private static int promise = 0;
-
-    private interface Call { Object answer(); }
-
-    private static void due(String what, Object got, Object want) {
-        checks++;
-        if (!want.equals(got)) {
-            wrong++;
-            System.out.println("promise " + promise + ": " + what + " answered " + got + ", due is " + want);
-        }
+public final class PromiseTest extends Checks {
+    private static void promise(int number) {
+        at("promise " + number);
     }
-
-    /** All that can be seen of a desk. */
-    private static String look(Derivationdesk d) {
-        StringBuilder s = new StringBuilder();
-        s.append(d.digest());
-        for (int r = 0; r < d.count(0); r++) {
-            s.append('|').append(d.rows(r, 0)).append('|').append(d.rows(r, 1));
-            for (int what = 0; what <= 4; what++) s.append(' ').append(d.ofRelation(r, what));
-            for (int a = 0; a < 5; a++) {
-                for (int b = 0; b < 5; b++) s.append(' ').append(d.since(r, a, d.ofRelation(r, 0) == 1 ? -1 : b));
-            }
-        }
-        for (int rule = 0; rule < d.count(3); rule++) s.append('|').append(d.rule(rule));
-        for (int what = 0; what <= 9; what++) s.append(' ').append(d.count(what));
-        return s.toString();
-    }
-
-    /** The call throws just this, and nothing has changed after it. */
-    private static void thrown(Derivationdesk d, Class<?> due, String what, Call call) {
-        checks++;
-        String before = look(d);
-        Object got;
-        try {
-            got = call.answer();
-        } catch (RuntimeException e) {
-            got = e.getClass();
-        }
-        if (!due.equals(got)) {
-            wrong++;
-            System.out.println("promise " + promise + ": " + what + " answered " + got + ", due is " + due);
-        }
-        if (!before.equals(look(d))) {
-            wrong++;
-            System.out.println("promise " + promise + ": " + what + " threw and changed something");
-        }
-    }
-
-    private static final Class<?> INDEX = IndexOutOfBoundsException.class;
-    private static final Class<?> ARGUMENT = IllegalArgumentException.class;
-    private static final Class<?> STATE = IllegalStateException.class;
 
     /** A desk with so many relations of two places, and one of one place behind them. */
     private static Derivationdesk desk(int many) {
@@ -108,7 +58,7 @@ public final class PromiseTest {
     private interface RowCall { Object answer(int relation, int first, int second); }
 
     private static void newObject() {
-        promise = 1;
+        promise(1);
         Derivationdesk d = new Derivationdesk();
         int[] empty = {0, 0, 0, 0, 0, 0, 0, -1, 0, 0};
         for (int what = 0; what <= 9; what++) due("count " + what, d.count(what), empty[what]);
@@ -119,7 +69,7 @@ public final class PromiseTest {
     }
 
     private static void relation() {
-        promise = 2;
+        promise(2);
         Derivationdesk d = new Derivationdesk();
         due("relation 2", d.relation(2), 0);
         due("relation 1", d.relation(1), 1);
@@ -133,7 +83,7 @@ public final class PromiseTest {
     }
 
     private static void tell() {
-        promise = 3;
+        promise(3);
         Derivationdesk d = desk(3);
         due("the first fact", d.tell(0, 0, 1), 1);
         d.closure(1, 0);
@@ -154,7 +104,7 @@ public final class PromiseTest {
     }
 
     private static void untell() {
-        promise = 4;
+        promise(4);
         Derivationdesk d = paths();
         due("rows less", d.untell(0, 0, 1), 1 + 3);
         due("CLUNG: 1(0,1), 1(0,2) and 1(0,3) hold each other round the ring", d.count(6), 3);
@@ -216,7 +166,7 @@ public final class PromiseTest {
     }
 
     private static void drafts() {
-        promise = 5;
+        promise(5);
         Derivationdesk d = desk(2);
         due("two places", d.draft(0, 0, 14), 2);
         due("parts", d.count(7), 0);
@@ -231,7 +181,7 @@ public final class PromiseTest {
         due("text", d.rule(0), "1(0,v3):-0(v3,v3)/3");
         due("TIME", d.count(5), 1);
 
-        promise = 6;
+        promise(6);
         Derivationdesk e = desk(2);
         thrown(e, STATE, "no draft", () -> e.with(0, 0, 1));
         thrown(e, ARGUMENT, "no draft and no term", () -> e.with(0, 0, 4));
@@ -252,7 +202,7 @@ public final class PromiseTest {
         e.lay(1);
         due("with parts ahead", e.rule(0), "1(v0,v1):-0(v0,v1),2(v0),v0<v1,!2(v0)/1");
 
-        promise = 7;
+        promise(7);
         Derivationdesk f = desk(2);
         thrown(f, STATE, "no draft", () -> f.without(0, 0, 1));
         f.draft(1, 0, 0);
@@ -266,7 +216,7 @@ public final class PromiseTest {
         f.lay(2);
         due("text", f.rule(0), "1(v0,v0):-0(v0,v0),!0(v0,3),!2(v0),!0(v0,v0)/2");
 
-        promise = 8;
+        promise(8);
         Derivationdesk g = desk(2);
         thrown(g, STATE, "no draft", () -> g.compare(0, 0, 1));
         g.draft(1, 0, 1);
@@ -297,7 +247,7 @@ public final class PromiseTest {
     }
 
     private static void lays() {
-        promise = 9;
+        promise(9);
         Derivationdesk d = desk(3);
         thrown(d, STATE, "no draft", () -> d.lay(3));
         for (int s : new int[] {0, 4, -1, Integer.MAX_VALUE, Integer.MIN_VALUE}) thrown(d, ARGUMENT, "no draft, sides " + s, () -> d.lay(s));
@@ -346,7 +296,7 @@ public final class PromiseTest {
     }
 
     private static void groups() {
-        promise = 10;
+        promise(10);
         Derivationdesk d = desk(5);
         d.tell(0, 0, 2);
         d.tell(0, 0, 1);
@@ -385,7 +335,7 @@ public final class PromiseTest {
     }
 
     private static void pairs() {
-        promise = 11;
+        promise(11);
         Derivationdesk d = desk(3);
         due("closure", d.closure(1, 0), 0);
         due("rule", d.rule(0), "1(v0,v1):-0(v0,v1)/3");
@@ -393,7 +343,7 @@ public final class PromiseTest {
         due("TIME by 1", d.count(5), 1);
         due("closure", d.closure(2, 1), 2);
         for (boolean isClosure : new boolean[] {true, false}) {
-            promise = isClosure ? 11 : 12;
+            promise(isClosure ? 11 : 12);
             Derivationdesk e = desk(3);
             thrown(e, INDEX, "no head", () -> pair(e, isClosure, 4, 0));
             thrown(e, INDEX, "no of", () -> pair(e, isClosure, 0, -1));
@@ -415,7 +365,7 @@ public final class PromiseTest {
             due("12 rules", pair(e, isClosure, 2, 1), 10);
             thrown(e, STATE, "more than 12 rules", () -> pair(e, isClosure, 2, 1));
         }
-        promise = 12;
+        promise(12);
         Derivationdesk g = desk(2);
         due("generation", g.generation(1, 0), 0);
         due("rule", g.rule(0), "1(v0,v1):-0(v2,v0),0(v2,v1)/3");
@@ -434,7 +384,7 @@ public final class PromiseTest {
     }
 
     private static void sides() {
-        promise = 13;
+        promise(13);
         Derivationdesk d = desk(2);
         d.tell(0, 0, 1);
         lay(d, 1, 1, 0, 1, w(0, 0, 1));
@@ -450,7 +400,7 @@ public final class PromiseTest {
         thrown(d, INDEX, "rule -1", () -> d.sides(-1, 1));
         for (int s : new int[] {0, 4, -1, Integer.MIN_VALUE}) thrown(d, ARGUMENT, "sides " + s, () -> d.sides(0, s));
 
-        promise = 14;
+        promise(14);
         d.closure(1, 0);
         d.draft(0, 0, 0);
         thrown(d, INDEX, "no rule", () -> d.scrap(3));
@@ -480,7 +430,7 @@ public final class PromiseTest {
         due("LAYERS", e.count(4), 1);
         due("the other way round", e.group(0, 1, 0, 3), 0);
 
-        promise = 15;
+        promise(15);
         Derivationdesk k = desk(1);
         due("knock", k.knock(), 1);
         thrown(k, ARGUMENT, "a wrong call is not counted", () -> k.relation(7));
@@ -490,7 +440,7 @@ public final class PromiseTest {
     }
 
     private static void looks() {
-        promise = 16;
+        promise(16);
         Derivationdesk d = paths();
         d.tell(3, 2, -1);
         due("a fact", d.holds(0, 0, 1), true);
@@ -500,7 +450,7 @@ public final class PromiseTest {
         due("one place, not", d.holds(3, 0, -1), false);
         wrongRow(d, 0, 3, (r, a, b) -> d.holds(r, a, b));
 
-        promise = 17;
+        promise(17);
         due("rows", d.rows(0, 0), "0(0,1) 0(1,2) 0(2,3) 0(3,1)");
         due("rows", d.rows(3, 1), "3(2)");
         due("no rows", d.rows(2, 0), "");
@@ -512,7 +462,7 @@ public final class PromiseTest {
         thrown(d, ARGUMENT, "side 2", () -> d.rows(0, 2));
         thrown(d, ARGUMENT, "side -1", () -> d.rows(0, -1));
 
-        promise = 18;
+        promise(18);
         due("places", d.ofRelation(0, 0), 2);
         due("places", d.ofRelation(3, 0), 1);
         due("facts", d.ofRelation(0, 1), 4);
@@ -525,7 +475,7 @@ public final class PromiseTest {
         thrown(d, ARGUMENT, "what 5", () -> d.ofRelation(0, 5));
         thrown(d, ARGUMENT, "what -1", () -> d.ofRelation(0, -1));
 
-        promise = 19;
+        promise(19);
         Derivationdesk r = desk(3);
         r.draft(2, 0, 13);
         r.compare(2, 0, 1);
@@ -548,7 +498,7 @@ public final class PromiseTest {
     }
 
     private static void counts() {
-        promise = 20;
+        promise(20);
         Derivationdesk d = paths();
         d.group(2, 1, 0, 1);
         d.draft(0, 0, 1);
@@ -562,7 +512,7 @@ public final class PromiseTest {
         due("no LAYER without relations", new Derivationdesk().count(4), 0);
         due("one LAYER", desk(0).count(4), 1);
 
-        promise = 21;
+        promise(21);
         Derivationdesk c = desk(2);
         c.tell(0, 0, 1);
         c.tell(0, 1, 2);
@@ -606,7 +556,7 @@ public final class PromiseTest {
     }
 
     private static void questions() {
-        promise = 22;
+        promise(22);
         Derivationdesk d = paths();
         d.tell(3, 4, -1);
         due("first told", d.question(1, 0, -1), "1(0,1) 1(0,2) 1(0,3)");
@@ -619,7 +569,7 @@ public final class PromiseTest {
         due("one place", d.question(3, 3, -1), "");
         wrongPattern(d, 0, 3, (r, a, b) -> d.question(r, a, b));
 
-        promise = 23;
+        promise(23);
         due("a relation without rules", d.demands(0, 0, -1, 0), 1);
         due("rows", d.demands(0, 0, -1, 1), 1);
         // 1(0,_), 0(0,_); then 1(0,x) with x 1, 2, 3: 0(1,_), 0(2,_), 0(3,_).
@@ -668,7 +618,7 @@ public final class PromiseTest {
     }
 
     private static void heights() {
-        promise = 24;
+        promise(24);
         Derivationdesk d = paths();
         due("a fact", d.height(0, 0, 1), 0);
         due("one step", d.height(1, 0, 1), 1);
@@ -686,7 +636,7 @@ public final class PromiseTest {
         d.lay(1);
         due("without a with part", d.height(3, 0, -1), 1);
 
-        promise = 25;
+        promise(25);
         due("told and made", d.reasons(1, 0, 2), 2);
         due("made", d.reasons(1, 0, 1), 1 + 1);
         due("none", d.reasons(1, 1, 0), 0);
@@ -694,7 +644,7 @@ public final class PromiseTest {
         due("of one place", d.reasons(3, 0, -1), 1);
         wrongRow(d, 0, 3, (r, a, b) -> d.reasons(r, a, b));
 
-        promise = 26;
+        promise(26);
         due("told", d.reason(1, 0, 2, 0), "told");
         due("then matches", d.reason(1, 0, 2, 1), "r1 0 1 2");
         due("the best is told", d.reason(1, 0, 2, -1), "told");
@@ -719,7 +669,7 @@ public final class PromiseTest {
         due("the first one is not", b.reason(1, 0, 0, 0), "r0 0 1");
         due("by values", b.reason(1, 0, 0, 3), "r1 0 2");
 
-        promise = 27;
+        promise(27);
         due("a fact alone", d.proof(0, 0, 1), 1);
         due("told", d.proof(1, 0, 2), 1);
         due("1(0,3), 1(0,2), 0(2,3)", d.proof(1, 0, 3), 3);
@@ -728,7 +678,7 @@ public final class PromiseTest {
         due("of a group", d.proof(2, 2, 3), 1 + 3 + 3);
         wrongRow(d, 0, 3, (r, x, y) -> d.proof(r, x, y));
 
-        promise = 28;
+        promise(28);
         due("line 0", d.line(1, 0, 3, 0), "0(2,3) told");
         due("line 1", d.line(1, 0, 3, 1), "1(0,2) told");
         due("line 2", d.line(1, 0, 3, 2), "1(0,3) r1 0 2 3");
@@ -742,7 +692,7 @@ public final class PromiseTest {
     }
 
     private static void whyNots() {
-        promise = 29;
+        promise(29);
         Derivationdesk d = paths();
         due("so", d.whyNot(1, 0, 2), "so");
         // v1 of 1(0,v1) can be 1, 2, 3; then 0(v1,0) is not so: the first is 1.
@@ -774,7 +724,7 @@ public final class PromiseTest {
     }
 
     private static void joins() {
-        promise = 30;
+        promise(30);
         Derivationdesk d = desk(4);
         for (int b = 0; b < 5; b++) d.tell(0, 0, b);
         d.tell(1, 2, 3);
@@ -797,7 +747,7 @@ public final class PromiseTest {
         thrown(d, INDEX, "no rule", () -> d.visits(4, true));
         thrown(d, INDEX, "rule -1", () -> d.visits(-1, false));
 
-        promise = 31;
+        promise(31);
         due("plan", d.plan(0), "210");
         due("no with part", d.plan(1), "");
         due("the smallest number", d.plan(2), "01");
@@ -809,7 +759,7 @@ public final class PromiseTest {
         thrown(d, INDEX, "no rule", () -> d.plan(6));
         thrown(d, INDEX, "rule -1", () -> d.plan(-1));
 
-        promise = 32;
+        promise(32);
         due("of side 1", d.matches(0), 1);
         due("no variables", d.matches(1), 1);
         due("two parts", d.matches(2), 25);
@@ -817,7 +767,7 @@ public final class PromiseTest {
         thrown(d, INDEX, "no rule", () -> d.matches(6));
         thrown(d, INDEX, "rule -1", () -> d.matches(-1));
 
-        promise = 33;
+        promise(33);
         Derivationdesk p = paths();
         due("one", p.nearest(0, 0, 1), 1);
         due("three", p.nearest(0, 0, 3), 3);
@@ -840,7 +790,7 @@ public final class PromiseTest {
     }
 
     private static void containments() {
-        promise = 34;
+        promise(34);
         Derivationdesk d = desk(2);
         int wide = lay(d, 3, 1, 0, 1, w(0, 0, 1));
         int narrow = lay(d, 2, 1, 0, 1, w(0, 0, 1), w(0, 1, 2));
@@ -860,7 +810,7 @@ public final class PromiseTest {
         due("no constant", d.contained(wide, constant), false);
         due("another head", d.contained(mark, wide), false);
         due("one place", d.contained(mark, mark), true);
-        promise = 35;
+        promise(35);
         due("witness", d.witness(narrow, wide), "0 1");
         due("none", d.witness(wide, narrow), "none");
         due("one variable", d.witness(same, narrow), "0 0 0");
@@ -875,7 +825,7 @@ public final class PromiseTest {
         lay(e, 3, 1, 0, 0, w(0, 0, 11));
         due("a constant's number", e.witness(3, 2), "11 0");
         for (boolean isWitness : new boolean[] {false, true}) {
-            promise = isWitness ? 35 : 34;
+            promise(isWitness ? 35 : 34);
             thrown(d, INDEX, "no rule", () -> contain(d, isWitness, 7, group));
             thrown(d, INDEX, "no other", () -> contain(d, isWitness, group, 7));
             thrown(d, INDEX, "rule -1", () -> contain(d, isWitness, -1, 0));
@@ -885,7 +835,7 @@ public final class PromiseTest {
             thrown(d, STATE, "a group", () -> contain(d, isWitness, group, group));
         }
 
-        promise = 36;
+        promise(36);
         Derivationdesk n = desk(3);
         int first = n.closure(1, 0);
         due("none of a closure", n.needless(first), false);
@@ -918,7 +868,7 @@ public final class PromiseTest {
     }
 
     private static void wishes() {
-        promise = 37;
+        promise(37);
         Derivationdesk d = desk(3);
         d.closure(1, 0);
         d.tell(0, 0, 1);
@@ -954,7 +904,7 @@ public final class PromiseTest {
         e.tell(0, 1, 0);
         due("not by the rows that are facts", e.wish(0, 1, 0, -1), "0(0,2)");
 
-        promise = 38;
+        promise(38);
         Derivationdesk f = desk(2);
         lay(f, 1, 1, 0, 1, w(0, 0, 1));
         lay(f, 2, 1, 0, 1, w(0, 1, 0));
@@ -986,7 +936,7 @@ public final class PromiseTest {
         thrown(k, INDEX, "no relation", () -> k.differ(0, -1, 9));
         for (int s : new int[] {0, 4, -1, Integer.MAX_VALUE}) thrown(k, ARGUMENT, "size " + s, () -> k.differ(0, 1, s));
 
-        promise = 39;
+        promise(39);
         Derivationdesk p = paths();
         due("told", p.would(0, 3, 0, true), 1 + 4);
         due("told, as it is", p.would(0, 0, 1, true), 0);
@@ -1000,7 +950,7 @@ public final class PromiseTest {
     }
 
     private static void times() {
-        promise = 40;
+        promise(40);
         Derivationdesk d = desk(2);
         d.tell(0, 0, 1);
         d.closure(1, 0);
@@ -1025,7 +975,7 @@ public final class PromiseTest {
         due("30 are kept", d.held(2, 0, 0, 1), true);
         thrown(d, INDEX, "time 1 is gone", () -> d.held(1, 0, 0, 1));
 
-        promise = 41;
+        promise(41);
         Derivationdesk s = desk(2);
         due("not now", s.since(0, 0, 1), -1);
         s.tell(0, 0, 1);
@@ -1048,7 +998,7 @@ public final class PromiseTest {
     }
 
     private static void sound() {
-        promise = 42;
+        promise(42);
         Derivationdesk d = paths();
         due("sound", d.isSound(), true);
         d.group(2, 1, 2, 1);
@@ -1061,7 +1011,7 @@ public final class PromiseTest {
         d.untell(0, 2, 3);
         due("sound", d.isSound(), true);
 
-        promise = 43;
+        promise(43);
         Derivationdesk e = desk(1);
         e.tell(0, 1, 2);
         lay(e, 3, 1, 0, -1, w(0, 0, 1));
@@ -1096,7 +1046,6 @@ public final class PromiseTest {
         wishes();
         times();
         sound();
-        System.out.println(wrong == 0 ? "all " + checks + " answers are as due" : wrong + " answers are wrong");
-        System.exit(wrong == 0 ? 0 : 1);
+        end();
     }
 }
