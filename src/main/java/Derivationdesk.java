@@ -1834,8 +1834,9 @@ public final class Derivationdesk {
         }
 
         void recallBest(int cell) {
-            walk.aim(book.ruleAt(Math.floorDiv(best[cell], CODES)), answer);
-            walk.recall(Math.floorMod(best[cell], CODES));
+            int reason = isCell(cell) ? best[cell] : NONE;
+            walk.aim(book.ruleAt(Math.floorDiv(reason, CODES)), answer);
+            walk.recall(Math.floorMod(reason, CODES));
         }
 
         /** The cell of a row of the proof, lower ones first. */
